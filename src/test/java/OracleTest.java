@@ -3,7 +3,7 @@ import java.util.Random;
 /** Random programs, certificates, altered certificates and runs: the class answers as the oracle does. */
 public final class OracleTest {
     public static void main(String[] args) {
-        int trials = args.length > 0 ? Integer.parseInt(args[0]) : 1500;
+        int trials = args.length > 0 ? Integer.parseInt(args[0]) : 3000;
         long seed = args.length > 1 ? Long.parseLong(args[1]) : 1;
         int wrong = 0;
         int built = 0;

@@ -11,6 +11,11 @@ public final class WideningTest {
         fields();
         widePlaces();
         eachEndByItself();
+        waysToWidePlaces();
+        toItself();
+        sitesAndResults();
+        called();
+        builtAgain();
         Due.end("WideningTest");
     }
 
@@ -137,5 +142,95 @@ public final class WideningTest {
         Due.span("i", h, Due.at(0, 4, 0), 0, 127, 1);
         Due.span("k", h, Due.at(0, 4, 1), MIN, MAX - 1, 2);
         Due.span("z", h, Due.at(0, 4, 2), 7, 7, 0);
+    }
+
+    /** i = 0 .. 99, and in the loop an ARRAY is asked for null: PLACE 7 is next behind the 26 or 27, PLACE 8 is its a. */
+    private static AnalysisHouse asked(int ask, int op, int a) {
+        AnalysisHouse h = Due.built(1, 2, 1, 0,
+            0, 0, 2, 1, 1, 1, 0, 100, 23, 13, 1, 0, ask, 8, 19, 8,
+            1, 1, 0, 1, 7, 0, 2, 1, 19, 2, 33, 0, op, a);
+        h.analyze(1);
+        return h;
+    }
+
+    /** A wide PLACE is one whichever way it is come to; two PLACES behind it that is seen. */
+    private static void waysToWidePlaces() {
+        Due.span("next of a comparison", thousands(33, 0), Due.at(0, 7, 0), 0, 99, 1);
+        Due.span("next of a comparison, wide", thousands(19, 5), Due.at(0, 7, 0), 0, 127, 1);
+        Due.span("behind others, wide", thousands(19, 6), Due.at(0, 8, 0), 0, 127, 1);
+        for (int ask = 26; ask <= 27; ask++) {
+            Due.span("next of " + ask, asked(ask, 33, 0), Due.at(0, 9, 1), 0, 99, 1);
+            Due.span("next of " + ask + ", wide", asked(ask, 19, 7), Due.at(0, 9, 1), 0, 127, 1);
+            Due.span("a of " + ask, asked(ask, 33, 0), Due.at(0, 10, 1), 0, 99, 1);
+            Due.span("a of " + ask + ", wide", asked(ask, 21, 8), Due.at(0, 10, 1), 0, 127, 1);
+        }
+    }
+
+    /** PLACE 17 goes to itself, so it is wide, and what it was widened to comes to it again and again. */
+    private static void toItself() {
+        AnalysisHouse h = Due.analysed(1, 3, 0, 0,
+            0, 0, 2, 1, 1, 1, 0, 100, 23, 18, 1, 1, 0, 1000, 9, 0, 2, 2,
+            1, 0, 0, 7, 20, 17, 1, 1, 0, 1, 7, 0, 2, 1, 19, 2, 19, 17, 33, 0);
+        Due.span("a 19 to itself", h, Due.at(0, 17, 2), 0, 2147483000L, 1000);
+        Due.due("check", h.check(), 1);
+    }
+
+    private static void sitesAndResults() {
+        // r[0] = r[0] + 1: as a FIELD is
+        AnalysisHouse h = Due.built(0, 1, 1, 0,
+            0, 1, 28, 0, 2, 0, 1, 0, 0, 0, 1, 0, 0, 0, 30, 0, 0, 1, 7, 0, 31, 0, 33, 0);
+        for (int again = 0; again < 2; again++) {
+            Due.due("ELEMENT: PASSES", h.analyze(1), 11);
+            Due.due("ELEMENT: low", h.site(1, 3), MIN);
+            Due.due("ELEMENT: high", h.site(1, 4), MAX);
+        }
+        // for ever: r = a new one, longer by 1
+        h = Due.built(0, 1, 1, 0, 0, 0, 28, 0, 2, 0, 1, 0, 29, 0, 0, 1, 7, 0, 28, 0, 2, 0, 19, 3);
+        for (int again = 0; again < 2; again++) {
+            Due.due("LENGTH: PASSES", h.analyze(1), 11);
+            Due.due("LENGTH: low", h.site(2, 0), 0);
+            Due.due("LENGTH: high", h.site(2, 1), MAX);
+            Due.due("LENGTH of the other", h.site(1, 1), 0);
+        }
+        // f(n) = n = 0 ? 0 : f(n) + 1
+        h = Due.built(1, 1, 0, 1,
+            1, 0, 0, 0, 20, 8, 1, 0, 32, 0, 0, 1, 7, 0, 33, 0, 0, 0, 33, 0);
+        for (int again = 0; again < 2; again++) {
+            Due.due("RESULT: PASSES", h.analyze(1), 12);
+            Due.due("RESULT: low", h.result(0, 0), MIN);
+            Due.due("RESULT: high", h.result(0, 1), MAX);
+        }
+    }
+
+    /** METHOD 1 is called with 0, 10, .., 50: the 4th change goes on to 120; the last two walks take that back. */
+    private static void called() {
+        AnalysisHouse h = new AnalysisHouse();
+        h.method(0, 0, 0, 0);
+        for (int v = 0; v <= 50; v += 10) {
+            Due.code(h, 0, 0, v, 32, 1);
+        }
+        Due.code(h, 0, 33, 0);
+        h.method(1, 1, 0, 0);
+        Due.code(h, 1, 1, 0, 4, 0, 1, 0, 4, 0, 33, 0);
+        h.build();
+        h.analyze(1);
+        Due.span("called", h, Due.at(1, 0, 0), 0, 50, 10);
+        Due.span("one behind", h, Due.at(1, 1, 0), 0, 50, 10);
+        Due.span("two behind: as it was widened", h, Due.at(1, 2, 0), 0, 120, 10);
+    }
+
+    /** What was wide, and how often what is told changed, is not kept for another BUILD, another analyze(). */
+    private static void builtAgain() {
+        AnalysisHouse h = thousands(19, 9);
+        h.wipe(0);
+        Due.code(h, 0,
+            0, 0, 2, 0, 1, 0, 0, 100, 23, 14, 1, 0, 0, 1000, 9, 0, 2, 1,
+            1, 0, 0, 1, 7, 0, 2, 0, 19, 2, 33, 0, 33, 0);
+        h.build();
+        h.analyze(1);
+        Due.span("not wide any more", h, Due.at(0, 11, 1), 0, 99000, 1000);
+        h = Due.built(0, 0, 0, 0, 34, 0, 0, 1, 7, 0, 35, 0, 33, 0);
+        h.analyze(1);
+        Due.due("FIELD again: PASSES", h.analyze(1), 11);
     }
 }
