@@ -112,7 +112,7 @@ public final class AnalysisHouse {
         building = new Building(program);
         certificate = new Facts();
         other = new Facts();
-        stepper = new Stepper(program, building);
+        stepper = new Stepper(program, building, certificate);
         judge = new Judge(program, certificate);
         given = new Given();
         machine = new Machine(program, building, certificate, given);
@@ -1326,9 +1326,11 @@ public final class AnalysisHouse {
         private final Value array = new Value();
         private final Value out = new Value();
 
-        Stepper(Program all, Building shapes) {
+        Stepper(Program all, Building shapes, Facts certificate) {
             program = all;
             building = shapes;
+            from = certificate;
+            to = certificate;
         }
 
         void prepare(int how, Facts old, Facts fresh) {
