@@ -16,6 +16,7 @@ public final class WideningTest {
         sitesAndResults();
         called();
         builtAgain();
+        placeOne();
         Due.end("WideningTest");
     }
 
@@ -232,5 +233,23 @@ public final class WideningTest {
         h = Due.built(0, 0, 0, 0, 34, 0, 0, 1, 7, 0, 35, 0, 33, 0);
         h.analyze(1);
         Due.due("FIELD again: PASSES", h.analyze(1), 11);
+    }
+
+    /**
+     * METHOD 1 is given 0 and then what it gave back, one more each time; its PLACE 1 has changed as often as PLACE 0
+     * when FIELD 0 becomes 1000, and is not wide.
+     */
+    private static void placeOne() {
+        AnalysisHouse h = new AnalysisHouse();
+        h.method(0, 0, 0, 1);
+        Due.code(h, 0, 0, 0, 32, 1, 32, 1, 32, 1, 32, 1, 33, 0);
+        h.method(1, 1, 0, 1);
+        Due.code(h, 1, 34, 0, 19, 2, 19, 3, 4, 0,
+            1, 0, 0, 4, 22, 9, 0, 1000, 35, 0, 1, 0, 0, 1, 7, 0, 33, 0);
+        h.build();
+        h.analyze(1);
+        Due.span("what was given", h, Due.at(1, 2, 0), Due.MIN, Due.MAX, 1);
+        Due.span("FIELD 0 two PLACES behind PLACE 1", h, Due.at(1, 3, 10), 0, 1000, 1000);
+        Due.due("check", h.check(), 1);
     }
 }
