@@ -1,6 +1,6 @@
 /** Promises 7 and 9, the STEPS of 0 to 18: what is told of what arithmetic makes. */
 public final class SpansTest {
-    private static final long[] ALL = {Integer.MIN_VALUE, Integer.MAX_VALUE, 1};
+    private static final long[] ALL = Lines.ALL;
     private static final int MIN = Integer.MIN_VALUE;
     private static final int MAX = Integer.MAX_VALUE;
 
@@ -18,39 +18,13 @@ public final class SpansTest {
         Due.end("SpansTest");
     }
 
-    /** Puts a SPAN on the stack: a LOCAL, masked to 0 .. so many, times the STRIDE, and low; ALL is the LOCAL itself. */
-    private static int[] make(long[] span, int local) {
-        if (span[0] == span[1]) {
-            return new int[] {0, (int) span[0]};
-        }
-        if (span[1] - span[0] > MAX) {
-            return new int[] {1, local};
-        }
-        int mask = (int) ((span[1] - span[0]) / span[2]);
-        return new int[] {1, local, 0, mask, 12, 0, 0, (int) span[2], 9, 0, 0, (int) span[0], 7, 0};
-    }
-
-    private static int[] join(int[]... parts) {
-        int length = 0;
-        for (int[] part : parts) {
-            length += part.length;
-        }
-        int[] all = new int[length];
-        int at = 0;
-        for (int[] part : parts) {
-            System.arraycopy(part, 0, all, at, part.length);
-            at += part.length;
-        }
-        return all;
-    }
-
     private static long[] is(long... span) {
-        return span.length == 1 ? new long[] {span[0], span[0], 0} : span;
+        return Lines.is(span);
     }
 
     private static void op(int op, long[] x, long[] y, long[] want) {
-        int[] lines = op == 18 ? join(make(x, 0), new int[] {18, 0, 33, 0})
-            : join(make(x, 0), make(y, 1), new int[] {op, 0, 33, 0});
+        int[] lines = op == 18 ? Lines.join(Lines.make(x, 0), new int[] {18, 0, 33, 0})
+            : Lines.join(Lines.make(x, 0), Lines.make(y, 1), new int[] {op, 0, 33, 0});
         AnalysisHouse h = Due.analysed(2, 2, 0, 1, lines);
         int end = lines.length / 2 - 1;
         String what = op + " of " + x[0] + ".." + x[1] + "/" + x[2] + " and " + y[0] + ".." + y[1] + "/" + y[2];
@@ -289,8 +263,8 @@ public final class SpansTest {
     }
 
     private static void gridRow(int op, long[] x, long[] y) {
-        int[] lines = op == 18 ? join(make(x, 0), new int[] {18, 0, 33, 0})
-            : join(make(x, 0), make(y, 1), new int[] {op, 0, 33, 0});
+        int[] lines = op == 18 ? Lines.join(Lines.make(x, 0), new int[] {18, 0, 33, 0})
+            : Lines.join(Lines.make(x, 0), Lines.make(y, 1), new int[] {op, 0, 33, 0});
         AnalysisHouse h = Due.analysed(2, 2, 0, 1, lines);
         int end = lines.length / 2 - 1;
         Oracle.Span b = new Oracle.Span(y[0], y[1], y[2]);

@@ -1,3 +1,7 @@
+import java.nio.charset.StandardCharsets;
+import java.nio.file.Files;
+import java.nio.file.Path;
+
 /** What the tests that are worked out by hand share: they tell what is due and count what is not. */
 final class Due {
     static final int NONE = AnalysisHouse.NONE;
@@ -6,6 +10,9 @@ final class Due {
     static final int MAX = Integer.MAX_VALUE;
     private static int wrong;
     private static int asked;
+    private static int sentences;
+    private static String document;
+    private static String sentence = "";
 
     private Due() {
     }
@@ -14,8 +21,26 @@ final class Due {
         asked++;
         if (got != want) {
             wrong++;
-            System.out.println(what + " answered " + got + ", due is " + want);
+            System.out.println(sentence + what + " answered " + got + ", due is " + want);
         }
+    }
+
+    /** What is due from here on is due by this sentence of the document, which must stand there word by word. */
+    static void of(String words) {
+        sentences++;
+        sentence = "'" + words + "': ";
+        due("the document has it", document().contains(words), true);
+    }
+
+    private static String document() {
+        if (document == null) {
+            try {
+                document = Files.readString(Path.of("../shared/DOC.md"), StandardCharsets.UTF_8).replaceAll("\\s+", " ");
+            } catch (java.io.IOException e) {
+                throw new java.io.UncheckedIOException(e);
+            }
+        }
+        return document;
     }
 
     static void due(String what, boolean got, boolean want) {
@@ -64,7 +89,8 @@ final class Due {
     }
 
     static void end(String test) {
-        System.out.println(test + ": " + asked + " answers, " + wrong + " wrong");
+        String by = sentences > 0 ? " by " + sentences + " sentences" : "";
+        System.out.println(test + ": " + asked + " answers" + by + ", " + wrong + " wrong");
         if (wrong > 0) {
             System.exit(1);
         }
