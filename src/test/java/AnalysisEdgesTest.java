@@ -1,4 +1,4 @@
-/** The edges of THE ANALYSIS that 'Terms' names, sentence by sentence: PASSES, the 4th change, and what is made anew. */
+/** The edges of THE ANALYSIS that 'Terms' names, sentence by sentence: PASSES, the 4th change, what is made anew. */
 public final class AnalysisEdgesTest {
     private static final int MIN = Integer.MIN_VALUE;
     private static final int MAX = Integer.MAX_VALUE;
@@ -16,6 +16,8 @@ public final class AnalysisEdgesTest {
         marksToo();
         setsToo();
         widePlaces();
+        waysToWidePlaces();
+        allIsNothingAgain();
         ledgesAbove();
         ledgesBelow();
         endsThatAreOthers();
@@ -165,7 +167,8 @@ public final class AnalysisEdgesTest {
     }
 
     private static void fourthChangeOfFields() {
-        Due.of("What comes to a STATE (SPAN, SET, RESULT; a LENGTH, an ELEMENT each by itself) that is there makes it BOTH;");
+        Due.of("What comes to a STATE (SPAN, SET, RESULT; a LENGTH, an ELEMENT each by itself) that is there makes it "
+            + "BOTH;");
         int[] three = {0, 10, 35, 0, 0, 20, 35, 0, 0, 30, 35, 0};
         int[] read = {34, 0, 19, 0, 33, 0};
         read[3] = 8;
@@ -182,7 +185,8 @@ public final class AnalysisEdgesTest {
     }
 
     private static void fourthChangeOfResults() {
-        Due.of("What comes to a STATE (SPAN, SET, RESULT; a LENGTH, an ELEMENT each by itself) that is there makes it BOTH;");
+        Due.of("What comes to a STATE (SPAN, SET, RESULT; a LENGTH, an ELEMENT each by itself) that is there makes it "
+            + "BOTH;");
         for (int count = 4; count <= 5; count++) {
             AnalysisHouse h = new AnalysisHouse();
             h.method(1, 1, 0, 0);
@@ -201,7 +205,8 @@ public final class AnalysisEdgesTest {
 
     /** r = new 0; for ever: n = LENGTH of r and 1; if n > most, end; r = new n. What 29 told is seen at PLACE 6. */
     private static void fourthChangeOfLengths() {
-        Due.of("What comes to a STATE (SPAN, SET, RESULT; a LENGTH, an ELEMENT each by itself) that is there makes it BOTH;");
+        Due.of("What comes to a STATE (SPAN, SET, RESULT; a LENGTH, an ELEMENT each by itself) that is there makes it "
+            + "BOTH;");
         for (int most = 4; most <= 5; most++) {
             AnalysisHouse h = Due.analysed(0, 2, 1, 0,
                 0, 0, 28, 0, 2, 0, 1, 0, 29, 0, 19, 6, 0, 1, 7, 0, 2, 1, 1, 1, 0, most, 24, 18,
@@ -214,7 +219,8 @@ public final class AnalysisEdgesTest {
 
     /** r = new 1; n = r[0] and 1; if n <= most, r[0] = n. What 30 told is seen at PLACE 7. */
     private static void fourthChangeOfElements() {
-        Due.of("What comes to a STATE (SPAN, SET, RESULT; a LENGTH, an ELEMENT each by itself) that is there makes it BOTH;");
+        Due.of("What comes to a STATE (SPAN, SET, RESULT; a LENGTH, an ELEMENT each by itself) that is there makes it "
+            + "BOTH;");
         for (int most = 3; most <= 4; most++) {
             AnalysisHouse h = Due.analysed(0, 2, 1, 0,
                 0, 1, 28, 0, 2, 0, 1, 0, 0, 0, 30, 0, 19, 7, 0, 1, 7, 0, 2, 1, 1, 1, 0, most, 24, 17,
@@ -287,6 +293,83 @@ public final class AnalysisEdgesTest {
         h.analyze(3);
         Due.span("METHOD 0", h, Due.at(0, place + 2, 10), 0, 40, 10);
         Due.span("METHOD 1", h, Due.at(1, place + 2, 10), 0, 120, 10);
+        h.wipe(0);
+        h.wipe(1);
+        for (int m = 0; m < 2; m++) {
+            Due.code(h, m, Lines.join(arriving(lines), behind(place), Lines.of(m == 0 ? 19 : 0, place)));
+        }
+        h.build();
+        h.analyze(3);
+        Due.span("METHOD 0 now", h, Due.at(0, place + 2, 10), 0, 120, 10);
+        Due.span("METHOD 1 not any more", h, Due.at(1, place + 2, 10), 0, 40, 10);
+    }
+
+    /** The last of five comes to the wide PLACE by these lines, which stand before it. */
+    private static void comingBy(String what, int[] lines) {
+        int[][] numbers = numbers(0, 10, 20, 30, 40);
+        int[] head = arriving(numbers);
+        // four go to the PLACE behind the lines; the 19 of the last one gives way to them
+        int place = meeting(numbers) - 1 + lines.length / 2;
+        for (int at = 1; at < head.length; at += 2) {
+            if (head[at - 1] == 19) {
+                head[at] = place;
+            }
+        }
+        int[] code = Lines.join(java.util.Arrays.copyOf(head, head.length - 2), lines);
+        for (int at = 1; at < code.length; at += 2) {
+            code[at] = code[at] == TO_WIDE ? place : code[at] == TO_END ? place + 2 : code[at];
+        }
+        AnalysisHouse h = Due.analysed(3, 4, 0, 0, Lines.join(code, behind(place), Lines.of(19, place)));
+        span(what, h, place + 2, 10, is(0, 120, 10));
+        h = Due.analysed(3, 4, 0, 0, Lines.join(code, behind(place), Lines.of(33, 0)));
+        span(what + ", not wide", h, place + 2, 10, is(0, 40, 10));
+    }
+
+    private static final int TO_WIDE = 1001;
+    private static final int TO_END = 1002;
+
+    private static void waysToWidePlaces() {
+        Due.of("and at one to which a 19 .. 27 at that or a later PLACE goes, whether that has a SHAPE or not),");
+        comingBy("next of the 0", new int[0]);
+        comingBy("next of a 4", Lines.of(0, 1, 4, 0));
+        comingBy("next of a 35", Lines.of(34, 0, 35, 0));
+        comingBy("19", Lines.of(19, TO_WIDE));
+        comingBy("next of a 20", Lines.of(0, 1, 0, 2, 20, TO_END));
+        comingBy("a of a 20", Lines.of(0, 1, 0, 1, 20, TO_WIDE, 33, 0));
+        comingBy("next of a 22", Lines.of(0, 2, 0, 2, 22, TO_END));
+        comingBy("a of a 25", Lines.of(0, 1, 0, 1, 25, TO_WIDE, 33, 0));
+        comingBy("next of a 26", Lines.of(0, 1, 28, 0, 26, TO_END));
+        comingBy("a of a 26", Lines.of(3, 0, 26, TO_WIDE, 33, 0));
+        comingBy("next of a 27", Lines.of(3, 0, 27, TO_END));
+        comingBy("a of a 27", Lines.of(0, 1, 28, 0, 27, TO_WIDE, 33, 0));
+    }
+
+    /** How often what is told has changed is not kept for another analyze(). */
+    private static void allIsNothingAgain() {
+        Due.of("THE ANALYSIS of ROOTS (METHODS): all is NOTHING;");
+        int[] field = {34, 0, 0, 1, 7, 0, 35, 0, 33, 0};
+        int[] element = {0, 1, 28, 0, 2, 0, 1, 0, 0, 0, 1, 0, 0, 0, 30, 0, 0, 1, 7, 0, 31, 0, 33, 0};
+        int[] length = {0, 0, 28, 0, 2, 0, 1, 0, 29, 0, 0, 1, 7, 0, 28, 0, 2, 0, 19, 3};
+        int[] loop = {34, 0, 4, 0, 1, 1, 0, 1, 7, 0, 2, 1, 19, 0};
+        AnalysisHouse[] houses = {
+            Due.built(0, 0, 0, 0, field), Due.built(0, 1, 1, 0, element), Due.built(0, 1, 1, 0, length),
+            Due.built(0, 2, 0, 0, loop)
+        };
+        for (AnalysisHouse h : houses) {
+            int passes = h.analyze(1);
+            Due.due("some PASSES", passes > 5, true);
+            for (int k = 0; k < 2; k++) {
+                Due.due("as many again", h.analyze(1), passes);
+                Due.due("none for no ROOTS", h.analyze(0), 1);
+            }
+        }
+        // 3 changes each time
+        int[][] lines = numbers(0, 10, 20, 30);
+        AnalysisHouse h = arrivals(19, meeting(lines), lines);
+        for (int k = 0; k < 3; k++) {
+            h.analyze(1);
+            span("3 changes, again", h, meeting(lines) + 2, 10, is(0, 30, 10));
+        }
     }
 
     private static final int[] LEDGES = {MIN, -32768, -128, -1, 0, 1, 127, 255, 32767, 65535, MAX};
@@ -362,8 +445,8 @@ public final class AnalysisEdgesTest {
     }
 
     private static void aPass() {
-        Due.of("A PASS: the ROOTS' ARGUMENTS come, by METHODS; then, by METHODS and PLACES, each PLACE that has a STATE by "
-            + "then makes its STEP.");
+        Due.of("A PASS: the ROOTS' ARGUMENTS come, by METHODS; then, by METHODS and PLACES, each PLACE that has a STATE "
+            + "by then makes its STEP.");
         AnalysisHouse h = Due.built(0, 0, 0, 0, Lines.join(Lines.times(59, 32, 0), Lines.of(33, 0)));
         Due.due("it calls itself at once", h.analyze(1), 2);
         h = Due.built(0, 0, 0, 0, Lines.join(Lines.times(29, 0, 1, 4, 0), Lines.of(33, 0)));
@@ -419,6 +502,43 @@ public final class AnalysisEdgesTest {
         span("where it came to", h, place, 10, is(0, 40, 10));
         span("one behind, by the second time", h, place + 1, 10, is(0, 40, 10));
         span("two behind: a third time is not made", h, place + 2, 10, is(0, 120, 10));
+        Due.of("the STEPS of all STATES as they were, with SITES, FIELDS, RESULTS as they were, BOTH of all that comes;");
+        h = Due.analysed(0, 0, 0, 0,
+            0, 10, 35, 0, 0, 20, 35, 0, 0, 30, 35, 0, 0, 40, 35, 0, 34, 0, 19, 10, 33, 0);
+        span("a FIELD, behind the 34", h, 9, 10, is(0, 40, 10));
+        span("two behind the 34: as the FIELD was", h, 10, 10, is(0, 120, 10));
+        // FIELDS, RESULTS, SITES: of what is put there where the numbers meet, and one PLACE behind
+        int[][] elements = new int[5][];
+        for (int i = 0; i < 5; i++) {
+            elements[i] = Lines.of(0, 1, 28, 0, 0, 0, 0, 10 * i);
+        }
+        for (int more = 0; more <= 1; more++) {
+            int high = more == 0 ? 40 : 120;
+            h = meetingAt(0, lines, more, 35, 0, 33, 0);
+            Due.due("FIELD " + more + " behind", h.field(0, 1), high);
+            h = meetingAt(1, lines, more, 33, 0);
+            Due.due("RESULT " + more + " behind", h.result(0, 1), high);
+            h = meetingAt(0, lines, more, 28, 0, 33, 0);
+            Due.due("LENGTH " + more + " behind", h.site(1, 1), high);
+            h = meetingAt(0, lines, more, 32, 1, 33, 0);
+            Due.due("what is given " + more + " behind", h.state(1, 0, 0, 1), high);
+            h = meetingAt(0, elements, more, 31, 0, 33, 0);
+            Due.due("ELEMENT " + more + " behind", h.site(1, 4), high);
+        }
+    }
+
+    /** These lines stand where the numbers meet, or so many PLACES behind; METHOD 1 takes a number. */
+    private static AnalysisHouse meetingAt(int result, int[][] numbers, int more, int... lines) {
+        int place = meeting(numbers);
+        AnalysisHouse h = new AnalysisHouse();
+        h.method(3, 4, 0, result);
+        int[] between = more == 0 ? new int[0] : Lines.of(19, place + 1);
+        Due.code(h, 0, Lines.join(arriving(numbers), between, lines, Lines.of(19, place)));
+        h.method(1, 1, 0, 0);
+        h.code(1, 33, 0);
+        Due.due("it builds", h.build() > 0, true);
+        h.analyze(1);
+        return h;
     }
 
     /** Two lie on the stack where they meet: a number, and 120; what is above 120 goes on at another PLACE. */

@@ -1,4 +1,4 @@
-/** The edges of A BUILD that 'Terms' names, sentence by sentence: each FAULT, where it is, and which one is met first. */
+/** The edges of A BUILD that 'Terms' names, sentence by sentence: each FAULT, where it is, which one is met first. */
 public final class BuildEdgesTest {
     private static final int MIN = Integer.MIN_VALUE;
     private static final int MAX = Integer.MAX_VALUE;
@@ -78,6 +78,22 @@ public final class BuildEdgesTest {
         faultOf("a 34 behind the 33", 1, 1, 1, h);
         h.wipe(1);
         faultOf("wiped", 4, 1, 0, h);
+        // what an earlier BUILD has looked at is looked at again
+        h = new AnalysisHouse();
+        for (int m = 0; m < 8; m++) {
+            h.method(0, 0, 0, 0);
+            Due.code(h, m, I, 1, I, 2, 4, 0, 4, 0, END, 0);
+        }
+        for (int m = 7; m >= 0; m--) {
+            Due.due("all are fine", h.build(), 1);
+            for (int wrong = 0; wrong < 5; wrong++) {
+                h.wipe(m);
+                Due.code(h, m, Lines.join(Lines.times(wrong, 32, m), Lines.of(29, 0), Lines.times(4 - wrong, END, 0)));
+                faultOf("METHOD " + m + " now", 2, m, wrong, h);
+            }
+            h.wipe(m);
+            Due.code(h, m, I, 1, I, 2, 4, 0, 4, 0, END, 0);
+        }
     }
 
     private static void operands() {
@@ -313,7 +329,9 @@ public final class BuildEdgesTest {
             fine(line[0] + " makes 8", 1, Lines.join(seven, line, Lines.of(END, 0)));
             fault(line[0] + " would make 9", 3, 8, Lines.join(eight, line, Lines.of(END, 0)));
         }
-        int[][] keeping = {{2, 0}, {4, 0}, {6, 0}, {7, 0}, {18, 0}, {19, 9}, {20, 9}, {28, 0}, {32, 1}, {32, 4}, {35, 0}};
+        int[][] keeping = {
+            {2, 0}, {4, 0}, {6, 0}, {7, 0}, {18, 0}, {19, 9}, {20, 9}, {28, 0}, {32, 1}, {32, 4}, {35, 0}
+        };
         for (int[] line : keeping) {
             fine(line[0] + " on 8", line[0] == 28 ? 2 : 1, Lines.join(eight, line, Lines.of(END, 0)));
         }

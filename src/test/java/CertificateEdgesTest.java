@@ -7,6 +7,8 @@ public final class CertificateEdgesTest {
         analyses();
         analysesAgain();
         reached();
+        lastOfAll();
+        lastSiteIsUsed();
         slots();
         whatOfStates();
         sites();
@@ -73,6 +75,52 @@ public final class CertificateEdgesTest {
         Due.due("again: its own ROOTS", h.check(), 1);
         h.analyze(1);
         Due.span("what was planted is gone", h, Due.at(0, 0, 0), MIN, MAX, 1);
+    }
+
+    /** METHODS, PLACES, SITES: the last of each there can be, told and then not told any more. */
+    private static void lastOfAll() {
+        Due.of("Whether a PLACE has a STATE in THE CERTIFICATE. False: also no such one, no CERTIFICATE.");
+        AnalysisHouse h = new AnalysisHouse();
+        for (int m = 0; m < 8; m++) {
+            h.method(0, 0, 0, 1);
+            int[] made = Lines.of(0, m + 1, 28, 0, 5, 0, 0, 0, 0, m - 9, 31, 0, 4, 0);
+            int[] more = Lines.times(2, 0, 1, 28, 0, 4, 0);
+            int[] rest = Lines.join(Lines.times(22, 0, 1, 4, 0), Lines.of(0, -m, 18, 0, 33, 0));
+            Due.code(h, m, Lines.join(more, made, rest));
+        }
+        Due.due("24 SITES", h.build(), 25);
+        Due.due("some PASSES", h.analyze(255), 2);
+        for (int k = 0; k < 2; k++) {
+            Due.due("PLACE 59 of METHOD 7", h.reached(7, 59), k == 0);
+            Due.due("RESULT of METHOD 7", h.result(7, 5), k == 0 ? 1 : 0);
+            Due.due("RESULT of METHOD 7: low", h.result(7, 0), k == 0 ? 7 : Due.NO);
+            Due.due("LENGTH of SITE 24", h.site(24, 0), k == 0 ? 8 : Due.NO);
+            Due.due("ELEMENT of SITE 24: low", h.site(24, 3), k == 0 ? -2 : Due.NO);
+            Due.due("ELEMENT of SITE 24: high", h.site(24, 4), k == 0 ? 0 : Due.NO);
+            Due.due("LENGTH of SITE 23", h.site(23, 0), k == 0 ? 1 : Due.NO);
+            Due.due("PLACE of SITE 24", h.site(24, 7), 7);
+            h.analyze(0);
+        }
+    }
+
+    /** What is told of an ARRAY of SITE 24 is used by 29 to 31 and by VERDICTS. */
+    private static void lastSiteIsUsed() {
+        Due.of("Of a SITE: 0 to 2 low, high, STRIDE of its LENGTH, 3 to 5 of its ELEMENT;");
+        AnalysisHouse h = new AnalysisHouse();
+        h.method(0, 0, 0, 0);
+        Due.code(h, 0, Lines.join(Lines.times(19, 0, 1, 28, 0, 4, 0), Lines.of(33, 0)));
+        h.method(0, 1, 1, 0);
+        Due.code(h, 1, Lines.join(Lines.times(4, 0, 1, 28, 0, 4, 0), Lines.of(
+            0, 6, 28, 0, 2, 0, 1, 0, 29, 0, 1, 0, 0, 5, 0, 9, 31, 0, 1, 0, 0, 5, 30, 0, 33, 0)));
+        Due.due("24 SITES", h.build(), 25);
+        h.analyze(2);
+        Due.due("its LENGTH by 29", h.state(1, 17, 10, 0), 6);
+        Due.due("31: VERDICT 3", h.verdict(1, 20, 3), 1);
+        Due.due("30: VERDICT 3", h.verdict(1, 23, 3), 1);
+        Due.due("its ELEMENT by 30", h.state(1, 24, 11, 1), 9);
+        Due.due("its ELEMENT", h.site(24, 4), 9);
+        Due.due("another one's", h.site(23, 4), 0);
+        Due.due("check", h.check(), 1);
     }
 
     private static void reached() {
@@ -154,10 +202,21 @@ public final class CertificateEdgesTest {
             Due.due("of a SET", h.state(0, 8, 17, what), what == 3 ? 0 : 1);
             Due.due("of a LOCAL's SET", h.state(0, 8, 5, what), what == 3 ? 0 : 1);
         }
+        Due.of("what = 0 low, 1 high, 2 STRIDE, of a SET: 3 its SITES as bits, 4 whether it may be null (1, 0); of the "
+            + "stack 5 the MARK (NONE).");
+        AnalysisHouse g = Due.analysed(1, 2, 2, 0, 1, 0, 0, 3, 12, 0, 0, 6, 9, 0, 0, 2, 28, 0, 33, 0);
+        long[] threes = {0, 18, 6};
+        for (int what = 0; what <= 2; what++) {
+            Due.due("0, 6, 12, 18", g.state(0, 7, 10, what), threes[what]);
+        }
+        Due.due("SITES as bits", g.state(0, 7, 11, 3), 2);
+        Due.due("it may not be null", g.state(0, 7, 11, 4), 0);
+        Due.due("it may be null", g.state(0, 7, 1, 4), 1);
         Due.due("no MARK", h.state(0, 8, 10, 5), Due.NONE);
         Due.due("a MARK", h.state(0, 8, 17, 5), 5);
         Due.due("a LOCAL has no MARK", h.state(0, 8, 1, 5), Due.NO);
         Due.due("nor has a LOCAL's SET", h.state(0, 8, 5, 5), Due.NO);
+        Due.of("NO: no such STATE, slot, what (of 0 to 2 a SET, of 3, 4 a SPAN).");
         for (int none : new int[] {-1, 6, 7, MIN, MAX}) {
             for (int slot : new int[] {0, 5, 10, 17}) {
                 Due.due("what " + none, h.state(0, 8, slot, none), Due.NO);
@@ -233,8 +292,8 @@ public final class CertificateEdgesTest {
     }
 
     private static void results() {
-        Due.of("Of a METHOD's RESULT: 0 to 4 as state(); 5 whether it may return (1, 0). NO: no such one, no CERTIFICATE, "
-            + "it may not return (0 to 4), none of this sort.");
+        Due.of("Of a METHOD's RESULT: 0 to 4 as state(); 5 whether it may return (1, 0). NO: no such one, no "
+            + "CERTIFICATE, it may not return (0 to 4), none of this sort.");
         AnalysisHouse h = new AnalysisHouse();
         for (int result = 0; result <= 2; result++) {
             h.method(0, 0, 0, result);
@@ -312,7 +371,8 @@ public final class CertificateEdgesTest {
 
     /** How many of 0, 1, 2, 3 there are for one INSTRUCTION on these. */
     private static void counted(String what, int[] put, int op, int... want) {
-        AnalysisHouse h = Due.analysed(2, 2, 2, 0, Lines.join(put, Lines.of(op, op == 19 ? put.length / 2 + 1 : 0, 33, 0)));
+        int a = op == 19 ? put.length / 2 + 1 : 0;
+        AnalysisHouse h = Due.analysed(2, 2, 2, 0, Lines.join(put, Lines.of(op, a, 33, 0)));
         for (int verdict = 0; verdict <= 3; verdict++) {
             Due.due(what + " " + op + ": " + verdict, h.verdicts(verdict), want[verdict]);
         }
@@ -399,6 +459,7 @@ public final class CertificateEdgesTest {
         Due.due("the greatest above the least", h.plant(0, 8, 10, MAX, MIN), false);
         Due.due("a SET on the stack", h.plant(0, 8, 17, 0, 1), false);
         Due.due("a LOCAL's SET", h.plant(0, 8, 5, 0, 1), false);
+        Due.due("a SET without null", Due.analysed(0, 0, 0, 0, 0, 1, 28, 0, 33, 0).plant(0, 2, 10, 0, 1), false);
         for (int none : new int[] {-1, 6, 9, 18, MIN, MAX}) {
             Due.due("slot " + none, h.plant(0, 8, none, 0, 1), false);
         }
@@ -567,8 +628,8 @@ public final class CertificateEdgesTest {
         Due.span("told", h, Due.at(0, meeting, 10), told[0], told[1], told[2]);
         Due.due("it holds", h.check(), 1);
         h.plant(0, at, 12, 5, 6);
-        Due.due(other[0] + " .. " + other[1] + " by " + other[2] + " in " + told[0] + " .. " + told[1] + " by " + told[2],
-            h.check(), holds ? 1 : -2000 - at);
+        String what = other[0] + " .. " + other[1] + " by " + other[2] + " in ";
+        Due.due(what + told[0] + " .. " + told[1] + " by " + told[2], h.check(), holds ? 1 : -2000 - at);
     }
 
     private static void checksSets() {

@@ -10,6 +10,7 @@ public final class MachineEdgesTest {
         arraysAreNullOrNot();
         eightMethods();
         localsOfMethods();
+        kindsAndResults();
         sixtyInstructions();
         fieldsBegin();
         methodsBegin();
@@ -122,9 +123,31 @@ public final class MachineEdgesTest {
         h = Due.built(0, 6, 0, 1, Lines.join(put, read, Lines.of(33, 0)));
         h.run(0, 99);
         Due.due("six LOCALS, each its own", h.ran(0), 123456);
+        // METHOD k and 1 within METHOD k, each with six LOCALS of its own
+        h = new AnalysisHouse();
+        for (int m = 0; m < 3; m++) {
+            h.method(0, 6, 0, 1);
+            int[] call = m == 2 ? Lines.of(0, 0) : Lines.of(32, m + 1);
+            Due.code(h, m, Lines.join(put, call, read, Lines.of(7, 0, 33, 0)));
+        }
+        h.build();
+        Due.due("within one another: run", h.run(0, 999), 1);
+        Due.due("within one another", h.ran(0), 3 * 123456);
         h = Due.built(0, 0, 0, 1, 0, 4, 33, 0);
         Due.due("none at all: run", h.run(0, 2), 1);
         Due.due("none at all", h.ran(0), 4);
+    }
+
+    private static void kindsAndResults() {
+        Due.of("each of a KIND (I or A), a RESULT (0 none, 1 an INT, 2 an ARRAY),");
+        int[][] lines = {{33, 0}, {1, 0, 33, 0}, {1, 1, 33, 0}};
+        for (int result = 0; result <= 2; result++) {
+            AnalysisHouse h = Due.built(2, 2, 2, result, lines[result]);
+            h.argument(0, 77);
+            h.argument(1, 9);
+            Due.due("run", h.run(0, 9), 1);
+            Due.due("RESULT " + result, h.ran(0), new int[] {0, 77, 9}[result]);
+        }
     }
 
     private static void sixtyInstructions() {
@@ -170,6 +193,15 @@ public final class MachineEdgesTest {
         for (int m = 0; m < 2; m++) {
             h.wipe(m);
         }
+        // 70 and 80 lay above what is given
+        Due.code(h, 0, 0, 70, 0, 80, 4, 0, 4, 0, 32, 1, 33, 0);
+        Due.code(h, 1, 1, 0, 33, 0);
+        h.build();
+        h.run(0, 99);
+        Due.due("LOCALS are 0 whatever lay on the stack", h.ran(0), 0);
+        for (int m = 0; m < 2; m++) {
+            h.wipe(m);
+        }
         // 7 lie below the call, 8 on the stack of the called METHOD
         Due.code(h, 0, Lines.join(Lines.times(7, 0, 1), Lines.of(32, 1), Lines.times(7, 7, 0), Lines.of(33, 0)));
         Due.code(h, 1, Lines.join(Lines.times(8, 0, 100), Lines.times(7, 7, 0), Lines.of(33, 0)));
@@ -209,7 +241,9 @@ public final class MachineEdgesTest {
         two(14, 6, 3, 5);
         int[][] left = {{0, -5}, {1, -10}, {31, MIN}, {32, -5}, {33, -10}, {-1, MIN}, {-32, -5}, {MIN, -5}, {MAX, MIN}};
         int[][] right = {{0, -5}, {1, -3}, {31, -1}, {32, -5}, {33, -3}, {-1, -1}, {-32, -5}, {MIN, -5}, {MAX, -1}};
-        int[][] bare = {{0, -5}, {1, MAX - 2}, {31, 1}, {32, -5}, {33, MAX - 2}, {-1, 1}, {-32, -5}, {MIN, -5}, {MAX, 1}};
+        int[][] bare = {
+            {0, -5}, {1, MAX - 2}, {31, 1}, {32, -5}, {33, MAX - 2}, {-1, 1}, {-32, -5}, {MIN, -5}, {MAX, 1}
+        };
         for (int[] row : left) {
             two(15, -5, row[0], row[1]);
         }
@@ -227,6 +261,7 @@ public final class MachineEdgesTest {
 
     private static void jumps() {
         Due.of("19 a: goes on at PLACE a.");
+        back("what lies on the stack stays", 4, 0, 9, 0, 5, 19, 3, 8, 0, 33, 0);
         back("forth and back", 6, 19, 3, 0, 6, 33, 0, 19, 1);
         Due.of("20 .. 25 a: (i j - ) goes on at a, if i is = j, not =, <, >=, >, <= j.");
         int[][] less = {{MIN, MAX}, {-1, 0}, {0, 1}, {MIN, MIN + 1}, {MAX - 1, MAX}, {MIN, 1}, {-1, MAX}};

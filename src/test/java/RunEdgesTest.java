@@ -35,8 +35,8 @@ public final class RunEdgesTest {
     }
 
     private static void argumentsCome() {
-        Due.of("An argument comes behind the others (3 at most): an INT (kind 0), an ARRAY of v (0 .. 200) 0s (1), null (2, "
-            + "any v): how many.");
+        Due.of("An argument comes behind the others (3 at most): an INT (kind 0), an ARRAY of v (0 .. 200) 0s (1), null "
+            + "(2, any v): how many.");
         for (int v : new int[] {MIN, -1, 0, 201, MAX}) {
             AnalysisHouse h = new AnalysisHouse();
             Due.due("an INT", h.argument(0, v), 1);
@@ -66,6 +66,21 @@ public final class RunEdgesTest {
         h.argument(1, 200);
         h.run(0, 99);
         Due.due("0s", h.ran(0), 0);
+        for (int k = 0; k < 3; k++) {
+            h = Due.built(3, 3, 7, 1, 1, k, 0, 0, 30, 0, 1, k, 0, 199, 30, 0, 13, 0, 33, 0);
+            for (int again = 0; again < 2; again++) {
+                for (int other = 0; other < 3; other++) {
+                    h.argument(1, 200);
+                }
+                h.run(0, 99);
+                Due.due("0s of argument " + k, h.ran(0), 0);
+                h.fill(k, 0, 5);
+                h.fill(k, 199, 6);
+                h.run(0, 99);
+                Due.due("filled, argument " + k, h.ran(0), 7);
+                h.forget();
+            }
+        }
     }
 
     private static void argumentsRefused() {
@@ -184,8 +199,8 @@ public final class RunEdgesTest {
     }
 
     private static void runsEnd() {
-        Due.of("A METHOD runs with the arguments, up to n (0 .. 20000) INSTRUCTIONS: 1 it returned, 2 a WRONG, 3 one more was "
-            + "due.");
+        Due.of("A METHOD runs with the arguments, up to n (0 .. 20000) INSTRUCTIONS: 1 it returned, 2 a WRONG, 3 one "
+            + "more was due.");
         AnalysisHouse h = Due.built(0, 0, 0, 0, 0, 1, 4, 0, 33, 0);
         Due.due("it returned by the last one", h.run(0, 3), 1);
         Due.due("it returned before", h.run(0, 4), 1);
@@ -405,11 +420,9 @@ public final class RunEdgesTest {
         Due.due("null is none", h.ran(7), 0);
     }
 
-    private static final String OUTSIDE = "the first INSTRUCTION (0 the first) that began at a PLACE without STATE in THE "
-        + "CERTIFICATE as it was then,";
-
     private static void outsideOfPlaces() {
-        Due.of(OUTSIDE);
+        Due.of("the first INSTRUCTION (0 the first) that began at a PLACE without STATE in THE CERTIFICATE as it "
+            + "was then,");
         AnalysisHouse h = Due.analysed(0, 0, 0, 0, 0, 1, 4, 0, 19, 3, 33, 0);
         for (int place = 3; place >= 0; place--) {
             h.forgetState(0, place);
@@ -511,8 +524,8 @@ public final class RunEdgesTest {
     }
 
     /**
-     * METHOD 0 gives METHOD 1 the number 5, and then 9; METHOD 1 has these lines. Its STATES are planted wide, so that only
-     * LENGTHS, elements and FIELDS can be outside.
+     * METHOD 0 gives METHOD 1 the number 5, and then 9; METHOD 1 has these lines. Its STATES are planted wide, so that
+     * only LENGTHS, elements and FIELDS can be outside.
      */
     private static AnalysisHouse keeper(int... lines) {
         AnalysisHouse h = new AnalysisHouse();

@@ -156,7 +156,9 @@ public final class SpanEdgesTest {
     }
 
     private static void op(int op, long[] x, long[] y, long[] want) {
-        int[] lines = Lines.join(Lines.make(x, 0), Lines.make(y, 1), Lines.of(op, 0, 33, 0));
+        // something else is reckoned in between, and is gone when it is due
+        int[] between = Lines.of(0, 777, 18, 0, 4, 0);
+        int[] lines = Lines.join(Lines.make(x, 0), Lines.make(y, 1), between, Lines.of(op, 0, 33, 0));
         AnalysisHouse h = Due.analysed(2, 2, 0, 0, lines);
         int end = lines.length / 2 - 1;
         String what = name(x) + " " + op + " " + name(y);

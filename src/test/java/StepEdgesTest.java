@@ -42,7 +42,9 @@ public final class StepEdgesTest {
     }
 
     private static void op(int op, long[] x, long[] y, long[] want) {
-        int[] lines = Lines.join(Lines.make(x, 0), Lines.make(y, 1), Lines.of(op, 0, 33, 0));
+        // something else is reckoned in between, and is gone when it is due
+        int[] between = Lines.of(0, 777, 18, 0, 4, 0);
+        int[] lines = Lines.join(Lines.make(x, 0), Lines.make(y, 1), between, Lines.of(op, 0, 33, 0));
         AnalysisHouse h = Due.analysed(2, 2, 0, 0, lines);
         int end = lines.length / 2 - 1;
         String what = name(x) + " " + op + " " + name(y);
@@ -83,6 +85,13 @@ public final class StepEdgesTest {
         Due.due("6: what lies below", h.state(0, 4, 10, 5), 1);
         span("6: the upper", h, 4, 12, ALL);
         span("6: the lower", h, 4, 11, is(3));
+        h = Due.analysed(2, 2, 0, 0, 0, 3, 1, 1, 1, 0, 6, 0, 33, 0);
+        Due.due("6 of two MARKS: the upper", h.state(0, 4, 12, 5), 1);
+        Due.due("6 of two MARKS: the lower", h.state(0, 4, 11, 5), 0);
+        Due.due("6 of two MARKS: what lies below", h.state(0, 4, 10, 5), Due.NONE);
+        h = Due.analysed(0, 0, 0, 0, 0, 3, 0, 5, 6, 0, 33, 0);
+        span("6 without LOCALS: the upper", h, 3, 11, is(3));
+        span("6 without LOCALS: the lower", h, 3, 10, is(5));
         h = Due.analysed(2, 2, 0, 0, 0, 3, 5, 0, 33, 0);
         Due.due("5 without: the lower", h.state(0, 2, 10, 5), Due.NONE);
         Due.due("5 without: the upper", h.state(0, 2, 11, 5), Due.NONE);
@@ -287,6 +296,10 @@ public final class StepEdgesTest {
         op(11, is(-90, 90, 10), is(7), is(-6, 6, 1));
         op(11, is(-3, 90, 1), is(7), is(-3, 6, 1));
         op(11, is(-90, 3, 1), is(7), is(-6, 3, 1));
+        op(11, is(-1, 90, 1), is(7), is(-1, 6, 1));
+        op(11, is(-90, 1, 1), is(7), is(-6, 1, 1));
+        op(11, is(1, 90, 1), is(7), is(0, 6, 1));
+        op(11, is(-90, -1, 1), is(7), is(-6, 0, 1));
         op(11, is(-6, 6, 1), is(7), is(-6, 6, 1));
         op(11, is(-7, 7, 7), is(7), is(-6, 6, 1));
         op(11, is(3, 5, 1), is(1), is(0));
@@ -318,6 +331,7 @@ public final class StepEdgesTest {
         op(12, is(3, 9, 1), is(-1), is(0, 9, 1));
         op(12, is(-1), is(3, 9, 1), is(0, 9, 1));
         op(12, is(0, 9, 9), is(-5, -3, 1), is(0, 9, 1));
+        op(12, is(-5, -3, 1), is(0, 9, 9), is(0, 9, 1));
         op(12, is(0), is(-5, 5, 1), is(0));
         op(12, is(3, 9, 1), is(0), is(0));
         op(12, ALL, is(MAX), is(0, MAX, 1));
@@ -389,8 +403,8 @@ public final class StepEdgesTest {
     }
 
     private static void shiftsBare() {
-        Due.of("x from 0 on: as 16; all below 0 by a single one: low and high shifted; by a single k else: "
-            + "0 .. 2^(32 - k) - 1; else ALL.");
+        Due.of("x from 0 on: as 16; all below 0 by a single one: low and high shifted; by a single k else: 0 .. 2^(32 - "
+            + "k) - 1; else ALL.");
         op(17, is(0, 8, 4), is(1), is(0, 4, 1));
         op(17, is(4, 8, 4), is(33), is(2, 4, 1));
         op(17, is(4, 8, 4), is(-1), is(0));

@@ -196,39 +196,47 @@ public final class VerdictEdgesTest {
         "i", "", "ii", "ii", "ii", "ii", "ii", "ii", "r", "r", "i", "r", "ri", "rii", "", "", "", "i"
     };
 
-    private static int[] putting(String kinds, int v) {
-        int[] lines = Lines.of(3, 0, 0, v, 3, 0);
+    /** LOCAL 0 is such an ARRAY; two of them, an INT and another one lie below what is taken. */
+    private static int[] putting(String kinds, int[] array, int v) {
+        int[] lines = Lines.join(array, Lines.of(2, 0), array, array, Lines.of(0, v), array);
         for (char kind : kinds.toCharArray()) {
-            lines = Lines.join(lines, kind == 'r' ? Lines.of(3, 0) : Lines.of(0, v));
+            lines = Lines.join(lines, kind == 'r' ? array : Lines.of(0, v));
         }
         return lines;
     }
 
-    private static int due(int op, int wrong, int v) {
+    private static int due(int op, int wrong, boolean isNull, int v) {
         if (wrong == 1 && (op == 10 || op == 11)) {
             return v == 0 ? 3 : 1;
         }
         if (wrong == 4 && op == 28) {
             return v < 0 ? 3 : 1;
         }
-        return wrong == 2 && op >= 29 && op <= 31 ? 3 : 1;
+        boolean canBe = wrong == 2 && op >= 29 && op <= 31 && isNull || wrong == 3 && op >= 30 && op <= 31 && !isNull;
+        return canBe ? 3 : 1;
     }
 
-    /** With INTS that are 0, or below 0, with null, and with these below: only WRONGS that an INSTRUCTION has can be. */
+    /** With INTS that are 0, or below 0, with null, or an ARRAY of none: only WRONGS that an INSTRUCTION has can be. */
     private static void ofOthers() {
         Due.of("(Of others: 1.)");
         for (int op = 0; op < 36; op++) {
             for (int v = -1; v <= 0; v++) {
                 for (char any : new char[] {'i', 'r'}) {
-                    int[] put = putting(TAKES[op].replace('v', any), v);
-                    int place = put.length / 2;
-                    int a = op >= 19 && op <= 27 ? place + 1 : 0;
-                    AnalysisHouse h = Due.analysed(0, 1, 0, 0, Lines.join(put, Lines.of(op, a, 33, 0)));
-                    for (int wrong = 1; wrong <= 4; wrong++) {
-                        Due.due(op + " on " + v + ", WRONG " + wrong, h.verdict(0, place, wrong), due(op, wrong, v));
-                    }
+                    others(op, TAKES[op].replace('v', any), NULL, v);
+                    others(op, TAKES[op].replace('v', any), NO_INTS, v);
                 }
             }
+        }
+    }
+
+    private static void others(int op, String kinds, int[] array, int v) {
+        int[] put = putting(kinds, array, v);
+        int place = put.length / 2;
+        int a = op >= 19 && op <= 27 ? place + 1 : op == 1 || op == 2 ? 1 : 0;
+        AnalysisHouse h = Due.analysed(0, 2, 1, 0, Lines.join(put, Lines.of(op, a, 33, 0)));
+        for (int wrong = 1; wrong <= 4; wrong++) {
+            int want = due(op, wrong, array == NULL, v);
+            Due.due(op + " on " + v + ", WRONG " + wrong, h.verdict(0, place, wrong), want);
         }
     }
 }

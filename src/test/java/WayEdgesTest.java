@@ -10,6 +10,7 @@ public final class WayEdgesTest {
         less();
         others();
         bySpansBefore();
+        firstToA();
         nulls();
         marksOfWays();
         oneMark();
@@ -159,6 +160,20 @@ public final class WayEdgesTest {
         equalAndNot(is(0, 20, 10), is(5, 12, 7), xy(is(10), is(5, 12, 7)), xy(is(0, 20, 10), is(5, 12, 7)));
         // x loses 0 and is 1 alone then: y, single too, does not lose 1 by that
         equalAndNot(is(0, 1, 1), is(0), xy(is(0), is(0)), xy(is(1), is(0)));
+    }
+
+    /**
+     * LOCALS 1 and 2 are FIELD 0, which is 0, then 0 .. 1, 0 .. 2, 0 .. 3 from PASS to PASS. From PASS 2 on both ways go
+     * to PLACE 7 and each changes it, for what comes first, x < y, has less: so PASS 3 has the 4th change.
+     */
+    private static void firstToA() {
+        Due.of("20 to 25: first to a, then to the next PLACE (by the contrary):");
+        AnalysisHouse h = Due.analysed(0, 3, 0, 0,
+            34, 0, 2, 1, 34, 0, 2, 2, 1, 1, 1, 2, 22, 7, 19, 8, 19, 9,
+            34, 0, 0, 1, 7, 0, 2, 0, 1, 0, 0, 3, 24, 18, 1, 0, 35, 0, 33, 0, 19, 7);
+        span("FIELD 0", h, 1, 10, is(0, 3, 1));
+        span("x, two PLACES behind", h, 9, 1, is(0, 127, 1));
+        span("y, two PLACES behind", h, 9, 2, is(0, 127, 1));
     }
 
     private static void nulls() {
@@ -345,6 +360,8 @@ public final class WayEdgesTest {
         Due.of("29: BOTH of the LENGTHS of its SITES.");
         length("4", of(FOUR), is(4));
         length("0", of(NO_INTS), is(0));
+        AnalysisHouse h = Due.analysed(0, 0, 0, 0, 0, 0, 28, 0, 29, 0, 33, 0);
+        span("0, at once", h, 3, 10, is(0));
         length("OUTSIDE", of(GIVEN), is(0, MAX, 1));
         length("4 or 10", of(FOUR, TEN), is(4, 10, 6));
         length("10 or 4", of(TEN, FOUR), is(4, 10, 6));
@@ -407,6 +424,7 @@ public final class WayEdgesTest {
             Due.set(op + ": its place of the stack", h, Due.at(0, end, 10), 1, false);
             Due.due(op + ": its MARK stays", h.state(0, end, 10, 5), 2);
             Due.set(op + ": another LOCAL", h, Due.at(0, end, 1), 1, true);
+            span(op + ": a LOCAL that is an INT", h, end, 0, ALL);
             Due.set(op + ": another MARK's place", h, Due.at(0, end, 11), 1, true);
             // a LOCAL that another one was put to has no MARK any more
             lines = Lines.join(Lines.of(1, 2, 1, 1, 2, 2), using(op), Lines.of(33, 0));

@@ -55,8 +55,8 @@ final class Lines {
     }
 
     /**
-     * From PLACE 0 on: LOCAL is what one of these puts on the stack; which one can not be told, for it hangs on LOCAL 0,
-     * of which nothing is known.
+     * From PLACE 0 on: LOCAL is what one of these puts on the stack; which one can not be told, for it hangs on
+     * LOCAL 0, of which nothing is known.
      */
     static int[] oneOf(int local, int[]... makers) {
         int end = 0;
